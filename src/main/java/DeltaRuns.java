@@ -690,7 +690,6 @@ public final class DeltaRuns {
         private void dryUp() {
             for (int i = 0; i < wetTotal && i < MAX_CELLS; i++) {
                 came[wet[i]] = 0;
-                pits[wet[i]] = false;
             }
             wetTotal = 0;
         }

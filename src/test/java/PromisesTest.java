@@ -24,6 +24,7 @@ public final class PromisesTest {
         foretold();
         wasted();
         against();
+        eachRuleAlone();
         count();
         status();
         wildCalls();
@@ -132,7 +133,9 @@ public final class PromisesTest {
         due("stays", d.count(2), 51);
         due("least", d.level(0), 0);
         due("none is lake", d.lake(0, 0), 0);
+        due("run under it", d.height(0, 1, 0, 0), 51);
         due("greatest", d.level(200), 0);
+        due("run anew", d.height(0, 1, 0, 0), 54);
         due("is told", d.count(2), 200);
     }
 
@@ -239,6 +242,8 @@ public final class PromisesTest {
         fault("  ;", 2);
         fault("yea 1 dyke 0 0", 0);
         fault("years 1 dyke 0 0", 0);
+        fault("yearz 1 dyke 0 0", 0);
+        fault("yeara 1 dyke 0 0", 0);
         fault("Year 1 dyke 0 0", 0);
         fault("year", 4);
         fault("year   ", 7);
@@ -248,6 +253,7 @@ public final class PromisesTest {
         fault("year 4294967297 dyke 0 0", 5);
         fault("year -1 dyke 0 0", 5);
         fault("year x dyke 0 0", 5);
+        fault("year ; dyke 0 0", 5);
         fault("year 1 2 dyke 0 0", 7);
         fault("year 1 dykes 0 0", 7);
         fault("year 1", 6);
@@ -279,6 +285,7 @@ public final class PromisesTest {
         DeltaRuns d = new DeltaRuns();
         due("20 ACTS", plan(d, twenty), 20);
         due("are told", d.count(4), 20);
+        due("and run", d.height(0, 1, 0, 0), 51);
         fault(twenty + "; " + act, twenty.length() + 2);
         fault(twenty + ";", twenty.length() + 1);
         fault(twenty + "  ;x", twenty.length() + 3);
@@ -317,6 +324,9 @@ public final class PromisesTest {
         due("opened", e.flow(12, 4, 1, 0), 32);
         due("in the order of the TEXT", e.flow(12, 6, 1, 0), 32);
         due("asked again, the other way", e.flow(12, 3, 1, 0), 0);
+        plan(e, "year 1 dyke 1 0");
+        due("the first YEAR", e.height(0, 1, 1, 0), 50);
+        due("its DYKE is there when the run goes on", e.flow(12, 3, 1, 0), 0);
         plan(e, "year 1 dyke 1 0; year 1 dyke 0 1");
         due("shut in: a PIT", e.height(0, 3, 0, 0), 103);
     }
@@ -366,6 +376,12 @@ public final class PromisesTest {
         full.size(2, 2);
         full.land(0, 0, 1, 1, 200);
         due("200 at most", full.height(13, 30, 0, 0), 200);
+        full.level(0);
+        full.land(0, 0, 1, 1, 1);
+        full.land(1, 0, 1, 0, 0);
+        due("a drop of 1, SORT 2", full.flow(25, 1, 1, 0), 64);
+        due("0 at least", full.height(25, 1, 0, 0), 0);
+        full.land(0, 0, 1, 1, 200);
         full.land(0, 0, 0, 0, 199);
         due("up to 200", full.height(13, 30, 0, 0), 200);
     }
@@ -401,6 +417,16 @@ public final class PromisesTest {
         shares("SORT 2, last", d, 35, 1, 2, 3, 4);
         d.spring(1, 1, 7);
         shares("rests", d, 24, 1, 1, 2, 3);
+        d.spring(1, 1, 1000);
+        shares("much", d, 24, 100, 200, 300, 400);
+        shares("much, SORT 1", d, 12, 250, 250, 250, 250);
+        d.land(1, 2, 1, 2, 59);
+        shares("the second SIDE is the lowest", d, 0, 0, 1000, 0, 0);
+        plan(d, "year 1 dyke 2 1; year 1 dyke 1 2; year 1 dyke 0 1");
+        shares("one SIDE alone, SORT 1", d, 12, 0, 0, 0, 1000);
+        shares("one SIDE alone, SORT 2", d, 24, 0, 0, 0, 1000);
+        plan(d, "");
+        d.land(1, 2, 1, 2, 80);
         d.land(2, 1, 2, 1, 80);
         d.land(0, 1, 0, 1, 70);
         d.land(1, 0, 1, 0, 70);
@@ -491,6 +517,7 @@ public final class PromisesTest {
             due("of six the " + i, d.stays(i, 19), six[i]);
         }
         due("no seventh", d.stays(6, 19), -1);
+        due("of all the last", d.stays(35, 9), 35);
         due("two known", d.stays(-1, 29), 3);
         due("WEAR 1", d.stays(2, 29), 25);
         due("three known", d.stays(-1, 30), 0);
@@ -514,6 +541,11 @@ public final class PromisesTest {
         due("SINKS", d.foretold(0, 0, 1, 20, 2), -1);
         due("as of YEAR 0", d.foretold(0, 0, 0, 20, 2), 0);
         due("stays as it is", d.foretold(2, 1, 30, 20, 2), 0);
+        d.land(2, 1, 2, 1, 200);
+        due("200 at least", d.foretold(2, 1, 30, 20, 0), 200);
+        d.land(2, 1, 2, 1, 0);
+        due("0 at most", d.foretold(2, 1, 1, 0, 1), 0);
+        d.land(2, 1, 2, 1, 60);
         due("no RULE", d.foretold(0, 0, 0, 30, 0), -100);
         due("no RULE, 2", d.foretold(0, 0, 0, 30, 2), -100);
         int[][] bad = {{3, 0, 0, 0, 0}, {0, 2, 0, 0, 0}, {-1, 0, 0, 0, 0}, {0, 0, -1, 0, 0}, {0, 0, 31, 0, 0},
@@ -562,6 +594,33 @@ public final class PromisesTest {
         due("day -1", d.against(2, -1), -1);
         due("day 1001", d.against(2, 1001), -1);
         due("day 1000", d.against(2, 1000), 0);
+    }
+
+    /** Below a peak four lakes of their own depths: what a year lays there tells the rule. */
+    private static void eachRuleAlone() {
+        for (int rule = 0; rule < 36; rule++) {
+            promise = "14 to 17, RULE " + rule + " alone";
+            DeltaRuns d = cross(64);
+            d.land(1, 1, 1, 1, 55);
+            d.land(2, 1, 2, 1, 30);
+            d.land(1, 2, 1, 2, 20);
+            d.land(0, 1, 0, 1, 10);
+            d.land(1, 0, 1, 0, 5);
+            int[] x = {1, 2, 1, 0, 1};
+            int[] y = {1, 1, 2, 1, 0};
+            for (int i = 0; i < 5; i++) {
+                d.map(1, x[i], y[i], d.height(rule, 1, x[i], y[i]), i);
+            }
+            due("how many", d.stays(-1, 4), 1);
+            due("which", d.stays(0, 4), rule);
+            due("against", d.against(rule, 4), -1);
+            due("the other WEAR", d.against(rule ^ 1, 4), 0);
+            due("least", d.foretold(1, 0, 5, 4, 0), d.height(rule, 5, 1, 0));
+            due("greatest", d.foretold(1, 0, 5, 4, 1), d.height(rule, 5, 1, 0));
+            d.map(0, 0, 0, 1, 5);
+            due("none", d.stays(-1, 5), 0);
+            due("wasted", d.wasted(5), 5);
+        }
     }
 
     private static void count() {
