@@ -10,6 +10,7 @@ public final class BoundsOfCallsTest {
         atFirst();
         sizes();
         sizeLeavesAndTakes();
+        entriesLeftByOthers();
         cells();
         partsOfLand();
         heightsOfLand();
@@ -34,6 +35,8 @@ public final class BoundsOfCallsTest {
         counts();
         statusOfEach();
         statusLeft();
+        objectsApart();
+        askedInAnyOrder();
         lastCall();
         Due.end();
     }
@@ -111,6 +114,22 @@ public final class BoundsOfCallsTest {
         Due.due("SPRING", d.flow(0, 1, 2, 3), 1000);
         Due.due("ENTRIES", d.count(5), 1);
         Due.due("known yet", d.against(0, 0), 0);
+    }
+
+    private static void entriesLeftByOthers() {
+        Due.sentence("2: size: ENTRIES are none (and by no call but size)");
+        DeltaRuns d = new DeltaRuns();
+        d.map(0, 1, 1, 50, 3);
+        d.map(0, 2, 2, 51, 4);
+        int[] others = {d.land(0, 0, 0, 0, 50), d.land(0, 0, 0, 0, 201), d.level(41), d.level(201), d.spring(3, 3, 65),
+            d.spring(6, 6, 65), d.feed(0, 0, 0, 0, 0), d.plan(), d.plan(), d.map(31, 0, 0, 0, 0), d.size(1, 1)};
+        int[] want = {1, -1, 0, -1, 0, -2, 20, -6, 0, -1, -1};
+        for (int i = 0; i < want.length; i++) {
+            Due.due("call " + i, others[i], want[i]);
+        }
+        Due.due("ENTRIES", d.count(5), 2);
+        Due.due("the first", d.stays(-1, 3), 36);
+        Due.due("the second", d.against(0, 4), 1);
     }
 
     private static DeltaRuns used() {
@@ -710,6 +729,44 @@ public final class BoundsOfCallsTest {
                 d.feed(0, 0, 0, 0, 0);
             }
             Due.due("status behind a full TAPE", d.status(), left);
+        }
+    }
+
+    private static void objectsApart() {
+        Due.sentence("1: DeltaRuns(): a new object (whatever others were told)");
+        DeltaRuns one = springAtLake();
+        DeltaRuns two = new DeltaRuns();
+        Due.plan(one, "year 2 cut 0 0 by 5");
+        one.map(0, 0, 0, 1, 0);
+        for (int year = 1; year <= 3; year++) {
+            Due.due("the one's", one.height(0, year, 1, 0), 20 + 2 * year);
+            Due.due("the other's", two.height(0, year, 0, 0), 51);
+        }
+        Due.due("the one's RULES", one.stays(-1, 0), 0);
+        Due.due("the other's RULES", two.stays(-1, 0), 36);
+        Due.due("the one's ACTS", one.count(4), 1);
+        Due.due("the other's ACTS", two.count(4), 0);
+        Due.due("the one's status", one.level(-1) + one.status(), -2);
+        Due.due("the other's status", two.status(), 0);
+    }
+
+    private static void askedInAnyOrder() {
+        Due.sentence("10, 11, 12: HEIGHT, FLOW, LAKE as of a YEAR (whatever was asked before)");
+        String text = "year 2 dyke 1 0; year 4 open 1 0; year 5 cut 0 0 by 3; year 7 dyke 1 0; year 9 dredge 1 0 to 9";
+        DeltaRuns mixed = springAtLake();
+        Due.plan(mixed, text);
+        for (int i = 0; i < 60; i++) {
+            int year = 1 + i * 17 % 30;
+            int rule = i * 13 % 36;
+            DeltaRuns fresh = springAtLake();
+            Due.plan(fresh, text);
+            Due.due("flow in YEAR " + year, mixed.flow(rule, year, 1, 0), fresh.flow(rule, year, 1, 0));
+            fresh = springAtLake();
+            Due.plan(fresh, text);
+            Due.due("height in YEAR " + year, mixed.height(rule, year, 0, 0), fresh.height(rule, year, 0, 0));
+            fresh = springAtLake();
+            Due.plan(fresh, text);
+            Due.due("lakes in YEAR " + year, mixed.lake(rule, year), fresh.lake(rule, year));
         }
     }
 
